@@ -395,19 +395,20 @@ public final class ScoreThreads {
     // ---- doing edits
 
     private int edit(int what, int whom, int x, int y, boolean is) {
-        if (!run.underWay) {
-            return carryOut(what, whom, x, y, is);
-        }
         if (queued >= MOST_EDITS) {
             return FULL;
         }
-        queue[queued].keep(what, whom, x, y, is);
+        Edit edit = queue[queued];
+        edit.keep(what, whom, x, y, is);
+        if (!run.underWay) {
+            return carryOut(edit);
+        }
         queued++;
         return 0;
     }
 
-    private int carryOut(int what, int whom, int x, int y, boolean is) {
-        int f = what == EDIT_LINE ? changeLine(plugAt(whom), x) : changeTrack(what, trackAt(whom), x, y, is);
+    private int carryOut(Edit edit) {
+        int f = edit.what == EDIT_LINE ? changeLine(plugAt(edit.whom), edit.x) : changeTrack(trackAt(edit.whom), edit);
         if (f != 0) {
             return finding(f);
         }
@@ -415,36 +416,28 @@ public final class ScoreThreads {
         return 1;
     }
 
-    private void carryOutQueued() {
-        for (int e = 0; e < queued && e < MOST_EDITS; e++) {
-            Edit edit = queue[e];
-            carryOut(edit.what, edit.whom, edit.x, edit.y, edit.is);
-        }
-        queued = 0;
-    }
-
-    private int changeTrack(int what, Track track, int x, int y, boolean is) {
+    private int changeTrack(Track track, Edit edit) {
         if (track == null) {
             return NULL;
         }
-        switch (what) {
+        switch (edit.what) {
             case EDIT_TRACK:
-                track.clip = x;
-                track.start = y;
-                track.strict = is;
+                track.clip = edit.x;
+                track.start = edit.y;
+                track.strict = edit.is;
                 return 0;
             case EDIT_PURE:
                 Arrays.fill(track.chain, NONE);
-                track.pure = is;
+                track.pure = edit.is;
                 return 0;
             case EDIT_CHAIN:
-                return changeChain(track, x, y);
+                return changeChain(track, edit.x, edit.y);
             case EDIT_LEVEL:
-                track.levelBits = x;
-                track.level = Floats.floatOf(x);
+                track.levelBits = edit.x;
+                track.level = Floats.floatOf(edit.x);
                 return 0;
             default:
-                track.on = is;
+                track.on = edit.is;
                 return 0;
         }
     }
@@ -578,7 +571,10 @@ public final class ScoreThreads {
         }
         run.blocks++;
         run.left--;
-        carryOutQueued();
+        for (int e = 0; e < queued && e < MOST_EDITS; e++) {
+            carryOut(queue[e]);
+        }
+        queued = 0;
         if (run.left > 0 && !run.stopping) {
             beginBlock();
             return MIXED;
@@ -614,7 +610,10 @@ public final class ScoreThreads {
         }
     }
 
-    /** Floats by their bits, and what the document does with them, by the arithmetic that LANGUAGE.md leaves. */
+    /**
+     * Floats by their bits, and what the document does with them, by the arithmetic that LANGUAGE.md leaves.
+     * A zero with the sign of x is had as x * 0.0f.
+     */
     private static final class Floats {
         static final int SIGN = 0x80000000;
         private static final int EIGHT = 0x41000000;
@@ -718,15 +717,10 @@ public final class ScoreThreads {
             return x < 0.0f ? x * -1.0f : x;
         }
 
-        /** 0.0 with the sign of x. */
-        static float zeroOf(float x) {
-            return x * 0.0f;
-        }
-
         /** What is left of x by 1.0, with the sign of x. */
         static float restOf(float x) {
             float rest = x - (float) (int) x;
-            return rest == 0.0f ? zeroOf(x) : rest;
+            return rest == 0.0f ? x * 0.0f : rest;
         }
 
         /** The nearest whole number, of two the even one, with the sign of x. */
@@ -739,7 +733,7 @@ public final class ScoreThreads {
             } else if (rest < -0.5f || (odd && rest == -0.5f)) {
                 whole--;
             }
-            return whole == 0 ? zeroOf(x) : (float) whole;
+            return whole == 0 ? x * 0.0f : (float) whole;
         }
 
         static float greater(float x, float y) {
@@ -851,7 +845,7 @@ public final class ScoreThreads {
                 case BELL:
                     return Floats.greater(echoed(x), a);
                 case GATE:
-                    return Floats.size(x) < Floats.size(a) ? Floats.zeroOf(x) : x;
+                    return Floats.size(x) < Floats.size(a) ? x * 0.0f : x;
                 default:
                     return lookedUp(x);
             }

@@ -20,7 +20,25 @@ public final class EdgesTest {
                 }
             }
         }
+        oneObjectForAll();
         checks.finish();
+    }
+
+    /** Behind its 512th call an object may answer as it likes, but must not throw. */
+    private static void oneObjectForAll() throws ReflectiveOperationException {
+        ScoreThreads x = new ScoreThreads();
+        long calls = 0;
+        for (int round = 0; round < 3; round++) {
+            for (Method method : ScoreThreads.class.getDeclaredMethods()) {
+                if (java.lang.reflect.Modifier.isPublic(method.getModifiers())) {
+                    for (Object[] arguments : mixes(method.getParameterTypes())) {
+                        method.invoke(x, arguments);
+                        calls++;
+                    }
+                }
+            }
+        }
+        checks.due("far more than 512 calls", calls > 512 ? 1 : 0, 1);
     }
 
     private static List<Object[]> mixes(Class<?>[] types) {

@@ -121,9 +121,9 @@ public final class SoundTest {
     }
 
     private static void floatNumbers() {
-        ScoreThreads x = new ScoreThreads();
-        x.clip(3, 1);
         for (int exponent = 0; exponent <= 255; exponent++) {
+            ScoreThreads x = new ScoreThreads();
+            x.clip(3, 1);
             int[] fractions = {0, 1, 2, 0x400000, 0x7fffff, 0x2aaaaa};
             for (int fraction : fractions) {
                 for (int sign = 0; sign < 2; sign++) {
@@ -136,11 +136,11 @@ public final class SoundTest {
     }
 
     private static void doubleNumbers() {
-        ScoreThreads x = new ScoreThreads();
-        x.clip(4, 1);
         long[] fractions = {0, 1, 0x8000000000000L, 0x000000010000000L, 0x000000010000001L, 0x000000030000000L,
             0xfffffe0000000L, 0xfffffefffffffL, 0xffffff0000000L, 0xfffffffffffffL, 0x5555555555555L};
         for (long exponent = 0; exponent <= 2047; exponent++) {
+            ScoreThreads x = new ScoreThreads();
+            x.clip(4, 1);
             for (long fraction : fractions) {
                 for (long sign = 0; sign < 2; sign++) {
                     long bits = sign << 63 | exponent << 52 | (exponent == 2047 ? 0 : fraction);
@@ -216,26 +216,6 @@ public final class SoundTest {
         due("found null", x.found(1), 2);
     }
 
-    /** What 8 SAMPLES become by one PLUG, with a LEVEL of 1.0 and no other TRACK that is ON. */
-    private static ScoreThreads through(int kind, float a, int n, float... samples) {
-        ScoreThreads x = new ScoreThreads();
-        x.clip(3, 8);
-        x.clip(2, 64);
-        for (int i = 0; i < samples.length; i++) {
-            x.number(0, 3, i, Float.floatToRawIntBits(samples[i]));
-        }
-        for (int i = 0; i < 64; i++) {
-            x.number(1, 2, i, (long) i << 24);
-        }
-        x.plug(kind, Float.floatToRawIntBits(a), n);
-        x.track(0, 0, 0, false);
-        x.chain(0, 2, 0);
-        x.on(0, true);
-        x.render(1);
-        x.rounds(0, 200);
-        return x;
-    }
-
     private static void dueOut(String what, ScoreThreads x, float... wanted) {
         for (int i = 0; i < wanted.length; i++) {
             // other TRACKS join with 0.0, which hides the sign of a -0.0
@@ -243,36 +223,24 @@ public final class SoundTest {
         }
     }
 
-    /** The signs of zeros are seen in the LINE of an ECHO that has nothing to add but -0.0. */
     private static int signedBits(int kind, float a, int n, float sample) {
-        ScoreThreads x = new ScoreThreads();
-        x.clip(3, 8);
-        x.number(0, 3, 0, Float.floatToRawIntBits(sample));
-        x.plug(kind, Float.floatToRawIntBits(a), n);
-        x.plug(4, Float.floatToRawIntBits(-0.0f), 8);
-        x.track(0, 0, 0, false);
-        x.chain(0, 0, 0);
-        x.chain(0, 3, 1);
-        x.on(0, true);
-        x.render(1);
-        x.rounds(0, 200);
-        return x.plugged(1, 5);
+        return Sound.kept(Sound.through(kind, a, n, sample), 0);
     }
 
     private static void gains() {
         for (int kind = 0; kind < 2; kind++) {
-            dueOut("gain", through(kind, 3.0f, 0, 0.1f, -0.1f, 2.0f, 2.7f, -2.7f, 8.0f, -8.0f, 0.0f),
+            dueOut("gain", Sound.through(kind, 3.0f, 0, 0.1f, -0.1f, 2.0f, 2.7f, -2.7f, 8.0f, -8.0f, 0.0f),
                     0.1f * 3.0f, -0.1f * 3.0f, 6.0f, 8.0f, -8.0f, 8.0f, -8.0f, 0.0f);
         }
-        ScoreThreads tiny = through(0, 0.5f, 0, Float.MIN_VALUE, 3 * Float.MIN_VALUE, -3 * Float.MIN_VALUE,
+        ScoreThreads tiny = Sound.through(0, 0.5f, 0, Float.MIN_VALUE, 3 * Float.MIN_VALUE, -3 * Float.MIN_VALUE,
                 Float.MIN_NORMAL, 1e-30f);
         dueOut("tiny gain", tiny, 0.0f, 2 * Float.MIN_VALUE, -2 * Float.MIN_VALUE, Float.MIN_NORMAL / 2, 0.5f * 1e-30f);
     }
 
     private static void folds() {
-        dueOut("fold", through(2, 3.0f, 0, 0.1f, -0.1f, 0.5f, -0.5f, 2.0f, -2.5f, 8.0f, -8.0f),
+        dueOut("fold", Sound.through(2, 3.0f, 0, 0.1f, -0.1f, 0.5f, -0.5f, 2.0f, -2.5f, 8.0f, -8.0f),
                 0.1f * 3.0f, -0.1f * 3.0f, 0.5f, -0.5f, 0.0f, -0.5f, 0.0f, 0.0f);
-        dueOut("fold near one", through(2, 1.0f, 0, 0.99999994f, -7.9999995f, 1.0000001f),
+        dueOut("fold near one", Sound.through(2, 1.0f, 0, 0.99999994f, -7.9999995f, 1.0000001f),
                 0.99999994f, -7.9999995f % 1.0f, 1.0000001f % 1.0f);
     }
 
@@ -285,9 +253,9 @@ public final class SoundTest {
             for (int i = 0; i < 8; i++) {
                 wanted[i] = clipped((float) Math.rint(samples[i] * m) / m);
             }
-            dueOut("steps " + n, through(3, 0.0f, n, samples), wanted);
+            dueOut("steps " + n, Sound.through(3, 0.0f, n, samples), wanted);
         }
-        ScoreThreads x = through(3, 1.0f, 0, samples);
+        ScoreThreads x = Sound.through(3, 1.0f, 0, samples);
         dueOut("steps 0 are silent", x, 0, 0, 0, 0, 0, 0, 0, 0);
         due("steps 0 fail", x.fault(0, 3), 6);
         due("what fails is not found", x.found(6), 0);
@@ -295,7 +263,7 @@ public final class SoundTest {
     }
 
     private static void echoes() {
-        ScoreThreads x = through(4, 0.5f, 3, 1, 2, 3, 4, 5, 6, 7, 8);
+        ScoreThreads x = Sound.through(4, 0.5f, 3, 1, 2, 3, 4, 5, 6, 7, 8);
         float[] y = {1, 2, 3, 4.5f, 6, 7.5f, 8, 8};
         dueOut("echo", x, y);
         due("echo at", x.plugged(0, 3), 2);
@@ -303,35 +271,35 @@ public final class SoundTest {
         checks.dueFloat("echo line 1", x.plugged(0, 6), 8);
         checks.dueFloat("echo line 2", x.plugged(0, 7), 7.5f);
         due("echo went through", x.plugged(0, 2), 1);
-        dueOut("echo clipped below", through(4, 8.0f, 1, -1, -1), -1, -8, -8);
-        dueOut("echo's product is not clipped", through(4, 8.0f, 1, 8, -8, -8), 8, 8, 8);
-        ScoreThreads empty = through(4, 0.5f, 0, 1, 2);
+        dueOut("echo clipped below", Sound.through(4, 8.0f, 1, -1, -1), -1, -8, -8);
+        dueOut("echo's product is not clipped", Sound.through(4, 8.0f, 1, 8, -8, -8), 8, 8, 8);
+        ScoreThreads empty = Sound.through(4, 0.5f, 0, 1, 2);
         due("echo without samples", empty.fault(0, 3), 2);
         due("echo without samples at", empty.plugged(0, 3), 0);
     }
 
     private static void bells() {
-        ScoreThreads x = through(5, 0.5f, 2, -1, 1, -1, 1, 0, 0, 0, 0);
+        ScoreThreads x = Sound.through(5, 0.5f, 2, -1, 1, -1, 1, 0, 0, 0, 0);
         dueOut("bell", x, 0.5f, 1, 0.5f, 1.5f, 0.5f, 0.75f, 0.5f, 0.5f);
         checks.dueFloat("the line has what an echo makes", x.plugged(0, 5), -0.375f);
-        dueOut("bell below", through(5, -2.0f, 1, -3, 1, 0), -2, 7, -2);
-        due("bell without samples", through(5, 0.5f, 0, 1).fault(0, 3), 2);
+        dueOut("bell below", Sound.through(5, -2.0f, 1, -3, 1, 0), -2, 7, -2);
+        due("bell without samples", Sound.through(5, 0.5f, 0, 1).fault(0, 3), 2);
     }
 
     private static void gates() {
-        dueOut("gate", through(6, -0.5f, 0, 0.5f, -0.5f, 0.49999997f, -0.49999997f, 8, -8, 0),
+        dueOut("gate", Sound.through(6, -0.5f, 0, 0.5f, -0.5f, 0.49999997f, -0.49999997f, 8, -8, 0),
                 0.5f, -0.5f, 0, 0, 8, -8, 0);
     }
 
     private static void tables() {
-        dueOut("table", through(7, 0.0f, 1, -8, -7.75f, -7.76f, 0, 0.2499f, 7.99f, 7.75f, 0.25f),
+        dueOut("table", Sound.through(7, 0.0f, 1, -8, -7.75f, -7.76f, 0, 0.2499f, 7.99f, 7.75f, 0.25f),
                 0, 1 / 128f, 0, 32 / 128f, 32 / 128f, 63 / 128f, 63 / 128f, 33 / 128f);
-        ScoreThreads x = through(7, 0.0f, 1, 0, 0, 0, 0, 0, 0, 0, 8);
+        ScoreThreads x = Sound.through(7, 0.0f, 1, 0, 0, 0, 0, 0, 0, 0, 8);
         due("table beyond", x.fault(0, 3), 2);
         due("table's place", x.fault(0, 2), 2);
         due("table's uses", x.plugged(0, 2), 0);
-        due("nearly 8.0 and 8 is 16.0 as a float", through(7, 0.0f, 1, 7.9999995f).fault(0, 3), 2);
-        due("table of a shorter clip", through(7, 0.0f, 0, -6.0f, -6, -6, -6, -6, -6, -6, -6).fault(0, 3), 2);
+        due("nearly 8.0 and 8 is 16.0 as a float", Sound.through(7, 0.0f, 1, 7.9999995f).fault(0, 3), 2);
+        due("table of a shorter clip", Sound.through(7, 0.0f, 0, -6.0f, -6, -6, -6, -6, -6, -6, -6).fault(0, 3), 2);
     }
 
     private static void signsOfZeros() {

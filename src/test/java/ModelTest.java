@@ -3,7 +3,7 @@ import java.util.Random;
 /** Long runs of calls on the class and on Model, whose answers must be the same. The seeds are fixed. */
 public final class ModelTest {
     private static final Checks checks = new Checks();
-    private static final int RUNS = 3000, CALLS = 512, SCHEDULES = 200;
+    private static final int RUNS = 3000, CALLS = 512;
 
     private final Random chance;
     private final int run;
@@ -19,9 +19,6 @@ public final class ModelTest {
     public static void main(String[] args) {
         for (int run = 0; run < RUNS && checks.wrong() == 0; run++) {
             new ModelTest(run).play();
-        }
-        for (int studio = 0; studio < 20; studio++) {
-            sameWhateverTheTurns(studio);
         }
         checks.finish();
     }
@@ -186,51 +183,6 @@ public final class ModelTest {
             case 4 -> due("fault " + i + " " + what % 6, x.fault(i, what % 6), model.fault(i, what % 6));
             case 5 -> due("found " + i, x.found(i), model.found(i));
             default -> due("about " + i, x.about(i), model.about(i));
-        }
-    }
-
-    private static ScoreThreads sharedStudio(int seed) {
-        Random chance = new Random(seed);
-        ScoreThreads x = new ScoreThreads();
-        x.clip(3, 40);
-        x.clip(0, 3);
-        for (int i = 0; i < 40; i++) {
-            x.number(0, 3, i, Float.floatToRawIntBits(chance.nextFloat() * 4 - 2));
-        }
-        for (int kind = 0; kind < 8; kind++) {
-            x.plug(kind, Checks.bits(chance.nextFloat() * 2 - 1), kind == 7 ? chance.nextInt(2) : chance.nextInt(5));
-        }
-        for (int t = 0; t < 8; t++) {
-            x.track(t, chance.nextInt(8) - 1 > 0 ? 0 : -1, chance.nextInt(20), chance.nextInt(3) == 0);
-            x.on(t, chance.nextInt(4) != 0);
-            for (int j = 0; j < 4; j++) {
-                x.chain(t, j, chance.nextInt(10) - 2 < 0 ? -1 : chance.nextInt(8));
-            }
-        }
-        return x;
-    }
-
-    private static void sameWhateverTheTurns(int studio) {
-        long wanted = 0;
-        for (int schedule = 0; schedule < SCHEDULES; schedule++) {
-            Random chance = new Random(1000L * studio + schedule);
-            ScoreThreads x = sharedStudio(studio);
-            int workers = 1 + schedule % 4;
-            x.hire(workers);
-            x.render(4);
-            int last = 1;
-            for (int turns = 0; turns < 350 && last != 4; turns++) {
-                last = x.turn(chance.nextInt(workers));
-            }
-            // an object has 512 calls: what is left is done by rounds
-            for (int rounds = 0; rounds < 10 && last != 4; rounds++) {
-                last = x.rounds(chance.nextInt(workers), 200) < 200 ? 4 : 1;
-            }
-            checks.due("run of studio " + studio + " ended", x.about(7), 0);
-            if (schedule == 0) {
-                wanted = x.digest();
-            }
-            checks.due("studio " + studio + ", schedule " + schedule, x.digest(), wanted);
         }
     }
 }
